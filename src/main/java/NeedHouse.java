@@ -75,28 +75,25 @@ public final class NeedHouse {
         ready = false;
         signsOf = NONE;
         machine.forget();
+        lexemes.scan(tape, used);
         try {
-            understand(used);
+            // In the order in which the document looks for faults.
+            parser.program();
+            datas.check();
+            told.check();
+            tree.check();
+            lexemes.settle();
+            checkLimits();
+            types.tellConstructors();
+            typer.findGroups();
+            typer.work();
         } catch (IllegalStateException fault) {
             return lexemes.answer;
         }
-        ready = true;
-        return 0;
-    }
-
-    /** The order of these is the order in which the document looks for faults. */
-    private void understand(int used) {
-        lexemes.scan(tape, used);
-        parser.program();
-        datas.check();
-        told.check();
-        tree.check();
-        lexemes.settle();
-        checkLimits();
-        types.tellConstructors();
-        typer.program();
         tree.findBuilt();
         needs.find();
+        ready = true;
+        return 0;
     }
 
     private void checkLimits() {
@@ -315,6 +312,7 @@ public final class NeedHouse {
         private static final String DOUBLES = "->==/=<=>=&&||";
 
         static final int LONGEST = 12;
+        private static final long GREATEST = 2147483647L;
         static final int SYMBOLS = 2100;
         static final int ROOM = TAPE + 4;
         private static final int TABLE_BITS = 13;
@@ -435,7 +433,7 @@ public final class NeedHouse {
                 }
                 at++;
             }
-            boolean good = at - from <= 10 && number <= Integer.MAX_VALUE;
+            boolean good = at - from <= 10 && number <= GREATEST;
             kind[size] = good ? NUMBER : BAD;
             value[size] = good ? (int) number : 0;
             return at;
@@ -558,31 +556,26 @@ public final class NeedHouse {
             this.lexemes = lexemes;
         }
 
+        /** Comes to the first token. */
         void open() {
             depth = 0;
             token = NONE;
-            arrive();
-            next();
+            now = Lexemes.NAME;
+            misplaced = false;
+            advance();
         }
 
         void advance() {
             if (now < ITEM_END) {
                 if (misplaced) {
-                    lexemes.fail(3, token);
+                    refuse(3);
                 }
                 if (now == Lexemes.END) {
                     return;
                 }
+                token++;
                 arrive();
             }
-            next();
-        }
-
-        void refuse(int kind) {
-            lexemes.fail(kind > 3 && misplaced ? 3 : kind, token);
-        }
-
-        private void next() {
             if (endsAhead > 0) {
                 endsAhead--;
                 now = BLOCK_END;
@@ -597,21 +590,32 @@ public final class NeedHouse {
             }
         }
 
+        /** A fault at this token. */
+        void refuse(int kind) {
+            lexemes.answer = (kind > 3 && misplaced ? 3 : kind) + 16 * lexemes.line[token];
+            throw new IllegalStateException("a token that can't stand there");
+        }
+
+        /** Finds what ends ahead of a token, and what begins with it. */
         private void arrive() {
-            int before = token < 0 ? Lexemes.END : lexemes.kind[token];
-            token++;
             endsAhead = 0;
             endsBehind = 0;
             itemEnds = false;
             misplaced = false;
             int kind = lexemes.kind[token];
+            int before = token > 0 ? lexemes.kind[token - 1] : Lexemes.END;
+            boolean begins = before == Lexemes.OF || before == Lexemes.LET;
             if (kind == Lexemes.BAD) {
                 refuse(1);
             }
-            if (token == 0) {
+            if (begins && kind == Lexemes.END) {
+                refuse(2);
+            }
+            if (begins) {
+                misplaced = lexemes.column[token] <= stack[lastBlock()];
+            }
+            if (begins || token == 0) {
                 push(lexemes.column[token]);
-            } else if (before == Lexemes.OF || before == Lexemes.LET) {
-                beginBlock(kind);
             } else if (kind != Lexemes.END && lexemes.line[token] != lexemes.line[token - 1]) {
                 beginLine();
             }
@@ -628,33 +632,23 @@ public final class NeedHouse {
             }
         }
 
-        private void beginBlock(int kind) {
-            if (kind == Lexemes.END) {
-                refuse(2);
-            }
-            int column = lexemes.column[token];
-            misplaced = column <= stack[lastBlock()];
-            push(column);
-        }
-
+        /** Ends the BLOCKS whose column is greater, then an ITEM if the column is that of the last one left. */
         private void beginLine() {
             int column = lexemes.column[token];
-            int block = lastBlock();
-            for (int n = 0; n < ROOM && block > 0 && column < stack[block]; n++) {
-                if (block != depth - 1) {
-                    refuse(2);
+            int at = depth - 1;
+            for (; at > 0 && (stack[at] < 0 || column < stack[at]); at--) {
+                if (stack[at] >= 0) {
+                    if (at != depth - 1) {
+                        refuse(2);
+                    }
+                    depth = at;
+                    endsAhead++;
                 }
-                depth = block;
-                endsAhead++;
-                block = lastBlock();
             }
-            if (column < stack[block]) {
-                misplaced = true;
-            } else if (column == stack[block]) {
-                if (block != depth - 1) {
-                    refuse(2);
-                }
-                itemEnds = true;
+            misplaced = column < stack[at];
+            itemEnds = column == stack[at];
+            if (itemEnds && at != depth - 1) {
+                refuse(2);
             }
         }
 
@@ -1352,21 +1346,20 @@ public final class NeedHouse {
                 datas.tellName(layout.token);
                 layout.advance();
             }
-            expect(Lexemes.IS);
-            alternative();
-            for (int n = 0; n < MANY && layout.now == Lexemes.BAR; n++) {
-                layout.advance();
-                alternative();
+            boolean more = layout.now == Lexemes.IS;
+            if (!more) {
+                layout.refuse(2);
             }
-        }
-
-        private void alternative() {
-            int token = layout.token;
-            expect(Lexemes.CON);
-            datas.tellCon(token);
-            for (int n = 0; n < MANY && beginsTypeAtom(); n++) {
-                typeAtom(0);
-                datas.tellField();
+            for (int n = 0; n < MANY && more; n++) {
+                layout.advance();
+                token = layout.token;
+                expect(Lexemes.CON);
+                datas.tellCon(token);
+                for (int k = 0; k < MANY && beginsTypeAtom(); k++) {
+                    typeAtom(0);
+                    datas.tellField();
+                }
+                more = layout.now == Lexemes.BAR;
             }
         }
 
@@ -1893,7 +1886,9 @@ public final class NeedHouse {
                 } else if (kind[x] == UNKNOWN || kind[y] == UNKNOWN) {
                     int plain = kind[x] == UNKNOWN ? x : y;
                     int rich = plain == x ? y : x;
-                    if (stands(plain, rich)) {
+                    stampNow++;
+                    stampAll(rich);
+                    if (stamp[plain] == stampNow) {
                         return false;
                     }
                     link(plain, rich);
@@ -1919,12 +1914,6 @@ public final class NeedHouse {
             pairSize += 3;
         }
 
-        private boolean stands(int plain, int within) {
-            stampNow++;
-            stampAll(within);
-            return stamp[plain] == stampNow;
-        }
-
         /** Stamps all that stands in a type. */
         private void stampAll(int within) {
             walkSize = 0;
@@ -1932,16 +1921,11 @@ public final class NeedHouse {
             for (int n = 0; n < MANY && walkSize > 0; n++) {
                 walkSize--;
                 int type = find(walk[walkSize]);
-                if (stamp[type] != stampNow) {
-                    stamp[type] = stampNow;
-                    addParts(type);
+                int many = stamp[type] == stampNow ? 0 : datas.partsOf(kind[type]);
+                stamp[type] = stampNow;
+                for (int k = 0; k < many; k++) {
+                    addWalk(partOf(type, k));
                 }
-            }
-        }
-
-        private void addParts(int type) {
-            for (int k = datas.partsOf(kind[type]) - 1; k >= 0; k--) {
-                addWalk(partOf(type, k));
             }
         }
 
@@ -1970,7 +1954,9 @@ public final class NeedHouse {
                 walkSize--;
                 int at = find(walk[walkSize]);
                 codes[name * WIDTH + written] = codeOf(at);
-                addParts(at);
+                for (int k = datas.partsOf(kind[at]) - 1; k >= 0; k--) {
+                    addWalk(partOf(at, k));
+                }
             }
             codeSize[name] = written;
             return walkSize == 0;
@@ -2022,7 +2008,7 @@ public final class NeedHouse {
 
         private int freeOne(int k) {
             if (free[k] < 0) {
-                free[k] = unknown();
+                free[k] = make(UNKNOWN);
             }
             return free[k];
         }
@@ -2167,7 +2153,7 @@ public final class NeedHouse {
         private static final int GROUP_DONE = 17;
         /** A piece of work is its kind and, times this, what it is done to. */
         private static final int KINDS = 32;
-        private static final int WORK = 32768;
+        private static final int WORK = 16384;
 
         private final Lexemes lexemes;
         private final Tree tree;
@@ -2200,27 +2186,16 @@ public final class NeedHouse {
             this.types = types;
         }
 
-        void program() {
+        void findGroups() {
             findUses();
             groups = 0;
             memberSize = 0;
             Arrays.fill(numberOf, NONE);
             Arrays.fill(settled, 0);
             for (int scope = 0; scope < told.scopes; scope++) {
-                findGroups(scope);
+                findGroupsOf(scope);
             }
             groupStart[groups] = memberSize;
-            types.clear();
-            workSize = 0;
-            pushGroups(0);
-            for (int n = 0; n < MANY && workSize > 0; n++) {
-                workSize--;
-                doWork(work[workSize] % KINDS, work[workSize] / KINDS);
-            }
-            int main = told.mainOf();
-            if (types.isFunction(main)) {
-                lexemes.fail(7, told.token[main]);
-            }
         }
 
         private void findUses() {
@@ -2263,7 +2238,7 @@ public final class NeedHouse {
             return one == other || isUsed(one, other) && isUsed(other, one);
         }
 
-        private void findGroups(int scope) {
+        private void findGroupsOf(int scope) {
             firstGroup[scope] = groups;
             groupsOf[scope] = 0;
             if (!told.isDefinition(told.first[scope])) {
@@ -2316,26 +2291,37 @@ public final class NeedHouse {
             }
         }
 
-        private void doWork(int kind, int what) {
-            switch (kind) {
-                case VISIT: visit(what); break;
-                case HEAD: typeOf[what] = typeOf[tree.a[what]]; break;
-                case ARGUMENT: giveArgument(what); break;
-                case WANT_INT: want(what, types.intType()); break;
-                case WANT_BOOL: want(what, types.boolType()); break;
-                case ROWED: endRow(what); break;
-                case PAIRED: typeOf[what] = types.pair(typeOf[partOf(what, 0)], typeOf[partOf(what, 1)]); break;
-                case ELEMENT: want(tree.part[what], types.partOf(typeOf[tree.partOwner[what]], 0)); break;
-                case LAMBDA_DONE: typeOf[what] = functionOf(tree.b[what], typeOf[tree.a[what]]); break;
-                case LET_DONE: typeOf[what] = typeOf[tree.a[what]]; break;
-                case CHOSEN: choose(what); break;
-                case CASE_OPEN: openCase(what); break;
-                case ITEM: openItem(what); break;
-                case ITEM_DONE: endItem(what); break;
-                case GROUP: openGroup(what); break;
-                case DEFINITION: openDefinition(what); break;
-                case DEFINED: endDefinition(what); break;
-                default: endGroup(what); break;
+        void work() {
+            types.clear();
+            workSize = 0;
+            pushGroups(0);
+            for (int n = 0; n < MANY && workSize > 0; n++) {
+                workSize--;
+                int what = work[workSize] / KINDS;
+                switch (work[workSize] % KINDS) {
+                    case VISIT: visit(what); break;
+                    case HEAD: typeOf[what] = typeOf[tree.a[what]]; break;
+                    case ARGUMENT: giveArgument(what); break;
+                    case WANT_INT: want(what, types.intType()); break;
+                    case WANT_BOOL: want(what, types.boolType()); break;
+                    case ROWED: endRow(what); break;
+                    case PAIRED: typeOf[what] = types.pair(typeOf[partOf(what, 0)], typeOf[partOf(what, 1)]); break;
+                    case ELEMENT: want(tree.part[what], types.partOf(typeOf[tree.partOwner[what]], 0)); break;
+                    case LAMBDA_DONE: typeOf[what] = functionOf(tree.b[what], typeOf[tree.a[what]]); break;
+                    case LET_DONE: typeOf[what] = typeOf[tree.a[what]]; break;
+                    case CHOSEN: choose(what); break;
+                    case CASE_OPEN: openCase(what); break;
+                    case ITEM: openItem(what); break;
+                    case ITEM_DONE: endItem(what); break;
+                    case GROUP: openGroup(what); break;
+                    case DEFINITION: openDefinition(what); break;
+                    case DEFINED: endDefinition(what); break;
+                    default: endGroup(what); break;
+                }
+            }
+            int main = told.mainOf();
+            if (types.isFunction(main)) {
+                lexemes.fail(7, told.token[main]);
             }
         }
 
@@ -2597,9 +2583,9 @@ public final class NeedHouse {
         }
 
         void find() {
-            Arrays.fill(free, 0);
             freeSize = 0;
             for (int node = 0; node < tree.size; node++) {
+                empty(free, node);
                 findFree(node);
                 listFree(node);
             }
@@ -2778,8 +2764,8 @@ public final class NeedHouse {
             }
             boolean changed = true;
             for (int n = 0; n <= Told.NAMES && changed; n++) {
-                Arrays.fill(need, 0);
                 for (int node = 0; node < tree.size; node++) {
+                    empty(need, node);
                     findNeed(node);
                 }
                 changed = dropUnneeded();
@@ -2991,27 +2977,23 @@ public final class NeedHouse {
             heap[whichOf(value)] = valueOf(kind, objectOf(value));
         }
 
-        /** Whether so many CELLS can be made. */
-        boolean hasRoom(int cells) {
-            if (used + cells > CELLS) {
-                collect();
-            }
-            return used + cells <= CELLS;
-        }
-
         int cellsThere() {
-            collect();
+            hasRoom(CELLS + 1);
             return used;
         }
 
         long make(int kind, int which, int cells) {
-            heap[used] = valueOf(kind, which);
+            int at = used;
+            heap[at] = (long) kind << 32 | which;
             used += cells;
-            return valueOf(OBJECT, used - cells);
+            return (long) OBJECT << 32 | at;
         }
 
-        /** Copies what can be reached, so that what is used is what is THERE. */
-        private void collect() {
+        /** Whether so many CELLS can be made, what can't be reached being given up if there is need of that. */
+        boolean hasRoom(int cells) {
+            if (used + cells <= CELLS) {
+                return true;
+            }
             spareUsed = 0;
             for (int k = 0; k < savedSize; k++) {
                 saved[k] = moved(saved[k]);
@@ -3044,34 +3026,36 @@ public final class NeedHouse {
             heap = spare;
             spare = old;
             used = spareUsed;
+            return used + cells <= CELLS;
+        }
+
+        /** Copies what a value is, unless that is done; a THUNK that has its value is that. */
+        private long moved(long value) {
+            long now = value;
+            if ((int) (now >>> 32) == OBJECT && (int) (heap[(int) now] >>> 32) == DONE) {
+                now = heap[(int) now + 1];
+            }
+            if ((int) (now >>> 32) != OBJECT) {
+                return now;
+            }
+            int at = (int) now;
+            if ((int) (heap[at] >>> 32) != MOVED) {
+                int cells = sizeOf(heap[at]);
+                System.arraycopy(heap, at, spare, spareUsed, cells);
+                heap[at] = (long) MOVED << 32 | spareUsed;
+                spareUsed += cells;
+            }
+            return (long) OBJECT << 32 | (int) heap[at];
         }
 
         private int sizeOf(long header) {
-            int which = whichOf(header);
-            switch (kindOf(header)) {
+            int which = (int) header;
+            switch ((int) (header >>> 32)) {
                 case BUILT: return 1 + datas.conFields[which];
                 case CLOSURE: return 1 + needs.freeMany[which];
                 case PARTIAL: return 2 + which;
                 default: return 2 + needs.freeMany[which];
             }
-        }
-
-        /** Where a value is behind the copying; a THUNK that has its value is that. */
-        private long moved(long value) {
-            long now = value;
-            if (objectKind(now) == DONE) {
-                now = field(now, 1);
-            }
-            if (kindOf(now) != OBJECT) {
-                return now;
-            }
-            if (objectKind(now) != MOVED) {
-                int cells = sizeOf(field(now, 0));
-                System.arraycopy(heap, whichOf(now), spare, spareUsed, cells);
-                setField(now, 0, valueOf(MOVED, spareUsed));
-                spareUsed += cells;
-            }
-            return valueOf(OBJECT, objectOf(now));
         }
 
         /** What a NAME of an E is. */
@@ -3117,7 +3101,7 @@ public final class NeedHouse {
 
         private long thunk(int node) {
             long made = make(FRESH, node, 2 + needs.freeMany[node]);
-            setField(made, 1, 0);
+            heap[(int) made + 1] = 0;
             return later(made, node);
         }
 
@@ -3126,10 +3110,10 @@ public final class NeedHouse {
             long last = first;
             for (int k = 1; k < many; k++) {
                 long made = make(BUILT, Datas.CONS, 3);
-                setField(last, 2, made);
+                heap[(int) last + 2] = made;
                 last = made;
             }
-            setField(last, 2, valueOf(CON, Datas.EMPTY));
+            heap[(int) last + 2] = (long) CON << 32 | Datas.EMPTY;
             return first;
         }
 
@@ -3141,7 +3125,7 @@ public final class NeedHouse {
 
         private long later(long made, int node) {
             if (unfilledSize + 2 <= unfilled.length) {
-                unfilled[unfilledSize] = whichOf(made);
+                unfilled[unfilledSize] = (int) made;
                 unfilled[unfilledSize + 1] = node;
                 unfilledSize += 2;
             }
@@ -3154,24 +3138,18 @@ public final class NeedHouse {
                 unfilledSize -= 2;
                 int at = unfilled[unfilledSize];
                 int node = unfilled[unfilledSize + 1];
-                switch (kindOf(heap[at])) {
-                    case CLOSURE: capture(at + 1, node); break;
-                    case FRESH: capture(at + 2, node); break;
-                    default: fillParts(at, node); break;
+                int kind = (int) (heap[at] >>> 32);
+                if (kind == BUILT) {
+                    int apart = tree.kind[node] == Tree.LIST ? 3 : 1;
+                    for (int k = 0; k < tree.c[node]; k++) {
+                        heap[at + 1 + apart * k] = thing(tree.part[tree.b[node] + k]);
+                    }
+                } else {
+                    int from = at + (kind == FRESH ? 2 : 1);
+                    for (int k = 0; k < needs.freeMany[node]; k++) {
+                        heap[from + k] = variable[needs.freeName[needs.freeFrom[node] + k]];
+                    }
                 }
-            }
-        }
-
-        private void capture(int at, int node) {
-            for (int k = 0; k < needs.freeMany[node]; k++) {
-                heap[at + k] = variable[needs.freeName[needs.freeFrom[node] + k]];
-            }
-        }
-
-        private void fillParts(int at, int node) {
-            int apart = tree.kind[node] == Tree.LIST ? 3 : 1;
-            for (int k = 0; k < tree.c[node]; k++) {
-                heap[at + 1 + apart * k] = thing(tree.part[tree.b[node] + k]);
             }
         }
 
@@ -3299,6 +3277,7 @@ public final class NeedHouse {
         private int got;
         /** The value that was worked out, on its way to what WAITS for it. */
         private long value;
+        private boolean giving;
 
         Machine(Lexemes lexemes, Tree tree, Told told, Datas datas, Needs needs) {
             this.tree = tree;
@@ -3316,6 +3295,7 @@ public final class NeedHouse {
             made = 0;
             got = 0;
             value = 0;
+            giving = false;
             text.clear();
         }
 
@@ -3369,6 +3349,9 @@ public final class NeedHouse {
             for (; began < n && state == GOING; began++) {
                 steps++;
                 step();
+                for (int k = 0; k < MANY && giving && state == GOING; k++) {
+                    giving = handOn();
+                }
             }
             return began;
         }
@@ -3526,13 +3509,10 @@ public final class NeedHouse {
             return true;
         }
 
-        /** Hands a value to what WAITS, as long as nothing is to be worked out for that. */
+        /** A value came, for what WAITS. */
         private void give(long what) {
             value = what;
-            boolean goesOn = true;
-            for (int n = 0; n < MANY && goesOn; n++) {
-                goesOn = handOn();
-            }
+            giving = true;
         }
 
         /** Hands the value to the last thing that WAITS; true if a value came of that. */
