@@ -616,10 +616,12 @@ public final class NeedHouse {
             }
             if (begins || token == 0) {
                 push(lexemes.column[token]);
-            } else if (kind != Lexemes.END && lexemes.line[token] != lexemes.line[token - 1]) {
-                beginLine();
+            } else if (kind != Lexemes.END && lexemes.line[token] != lexemes.line[token - 1] && !beginLine()) {
+                refuse(2);
             }
-            close(kind);
+            if (!close(kind, closes(kind))) {
+                refuse(2);
+            }
             if (opens(kind)) {
                 push(-kind);
             }
@@ -632,14 +634,17 @@ public final class NeedHouse {
             }
         }
 
-        /** Ends the BLOCKS whose column is greater, then an ITEM if the column is that of the last one left. */
-        private void beginLine() {
+        /**
+         * Ends the BLOCKS whose column is greater, then an ITEM if the column is that of the last one left; false if
+         * one of these has something OPEN within it.
+         */
+        private boolean beginLine() {
             int column = lexemes.column[token];
             int at = depth - 1;
             for (; at > 0 && (stack[at] < 0 || column < stack[at]); at--) {
                 if (stack[at] >= 0) {
                     if (at != depth - 1) {
-                        refuse(2);
+                        return false;
                     }
                     depth = at;
                     endsAhead++;
@@ -647,9 +652,7 @@ public final class NeedHouse {
             }
             misplaced = column < stack[at];
             itemEnds = column == stack[at];
-            if (itemEnds && at != depth - 1) {
-                refuse(2);
-            }
+            return !itemEnds || at == depth - 1;
         }
 
         private int lastBlock() {
@@ -660,35 +663,27 @@ public final class NeedHouse {
             return at;
         }
 
-        /** Where the last LEXEME that is OPEN stands, or 0, where the PROGRAM is. */
-        private int lastOpen() {
-            int at = depth - 1;
-            while (at > 0 && stack[at] >= 0) {
-                at--;
+        /** Ends what a token ends by what it is; closed is what it closes (or END). False if it can't stand there. */
+        private boolean close(int kind, int closed) {
+            int open = depth - 1;
+            while (open > 0 && stack[open] >= 0) {
+                open--;
             }
-            return at;
-        }
-
-        private void close(int kind) {
-            int open = lastOpen();
             int opener = open > 0 ? -stack[open] : Lexemes.END;
             if (kind == Lexemes.SEMICOLON) {
-                if (stack[depth - 1] < 0) {
-                    refuse(2);
-                }
-            } else if (kind == Lexemes.COMMA) {
-                if (opener != Lexemes.ROUND && opener != Lexemes.SQUARE) {
-                    refuse(2);
-                }
+                return stack[depth - 1] >= 0;
+            }
+            if (kind == Lexemes.COMMA) {
                 endsBehind = depth - 1 - open;
                 depth = open + 1;
-            } else if (kind == Lexemes.END || closes(kind) != Lexemes.END) {
-                if (opener != closes(kind)) {
-                    refuse(2);
-                }
+                return opener == Lexemes.ROUND || opener == Lexemes.SQUARE;
+            }
+            if (kind == Lexemes.END || closed != Lexemes.END) {
                 endsBehind = depth - 1 - open;
                 depth = Math.max(open, 1);
+                return opener == closed;
             }
+            return true;
         }
 
         private static int closes(int kind) {
@@ -854,7 +849,7 @@ public final class NeedHouse {
         }
     }
 
-    /** What DATA tell: types, constructors, and the types of their fields as rows of codes, the whole ahead of its parts. */
+    /** What DATA tell: types, constructors, and their fields' types as rows of codes, the whole ahead of its parts. */
     private static final class Datas {
         static final int FALSE = 0;
         static final int TRUE = 1;
@@ -2957,24 +2952,24 @@ public final class NeedHouse {
 
         /** The kind of an OBJECT; NONE of what is none. */
         int objectKind(long value) {
-            return kindOf(value) == OBJECT ? kindOf(heap[whichOf(value)]) : NONE;
+            return (int) (value >>> 32) == OBJECT ? (int) (heap[(int) value] >>> 32) : NONE;
         }
 
         /** The node, the constructor or the number of ARGUMENTS of an OBJECT. */
         int objectOf(long value) {
-            return whichOf(heap[whichOf(value)]);
+            return (int) heap[(int) value];
         }
 
         long field(long value, int k) {
-            return heap[whichOf(value) + k];
+            return heap[(int) value + k];
         }
 
         void setField(long value, int k, long field) {
-            heap[whichOf(value) + k] = field;
+            heap[(int) value + k] = field;
         }
 
         void setKind(long value, int kind) {
-            heap[whichOf(value)] = valueOf(kind, objectOf(value));
+            heap[(int) value] = (long) kind << 32 | objectOf(value);
         }
 
         int cellsThere() {
@@ -3068,7 +3063,7 @@ public final class NeedHouse {
         }
 
         long globalThing(int i) {
-            return globalState[i] == KNOWN ? globalValue[i] : valueOf(GLOBAL, i);
+            return globalState[i] == KNOWN ? globalValue[i] : (long) GLOBAL << 32 | i;
         }
 
         long constructor(int con) {
