@@ -2952,24 +2952,31 @@ public final class NeedHouse {
 
         /** The kind of an OBJECT; NONE of what is none. */
         int objectKind(long value) {
-            return (int) (value >>> 32) == OBJECT ? (int) (heap[(int) value] >>> 32) : NONE;
+            int at = (int) value;
+            boolean isObject = (int) (value >>> 32) == OBJECT && at >= 0 && at < CELLS;
+            return isObject ? (int) (heap[at] >>> 32) : NONE;
         }
 
         /** The node, the constructor or the number of ARGUMENTS of an OBJECT. */
         int objectOf(long value) {
-            return (int) heap[(int) value];
+            int at = (int) value;
+            return at >= 0 && at < CELLS ? (int) heap[at] : 0;
         }
 
         long field(long value, int k) {
-            return heap[(int) value + k];
+            int at = (int) value + k;
+            return at >= 0 && at < CELLS ? heap[at] : 0;
         }
 
         void setField(long value, int k, long field) {
-            heap[(int) value + k] = field;
+            int at = (int) value + k;
+            if (at >= 0 && at < CELLS) {
+                heap[at] = field;
+            }
         }
 
         void setKind(long value, int kind) {
-            heap[(int) value] = (long) kind << 32 | objectOf(value);
+            setField(value, 0, (long) kind << 32 | objectOf(value));
         }
 
         int cellsThere() {
@@ -2977,8 +2984,12 @@ public final class NeedHouse {
             return used;
         }
 
+        /** Makes an OBJECT, for which hasRoom() has told that there is room. */
         long make(int kind, int which, int cells) {
             int at = used;
+            if (at + cells > CELLS) {
+                return 0;
+            }
             heap[at] = (long) kind << 32 | which;
             used += cells;
             return (long) OBJECT << 32 | at;
@@ -3027,10 +3038,10 @@ public final class NeedHouse {
         /** Copies what a value is, unless that is done; a THUNK that has its value is that. */
         private long moved(long value) {
             long now = value;
-            if ((int) (now >>> 32) == OBJECT && (int) (heap[(int) now] >>> 32) == DONE) {
-                now = heap[(int) now + 1];
+            if (objectKind(now) == DONE) {
+                now = field(now, 1);
             }
-            if ((int) (now >>> 32) != OBJECT) {
+            if (objectKind(now) == NONE) {
                 return now;
             }
             int at = (int) now;
@@ -3096,7 +3107,7 @@ public final class NeedHouse {
 
         private long thunk(int node) {
             long made = make(FRESH, node, 2 + needs.freeMany[node]);
-            heap[(int) made + 1] = 0;
+            setField(made, 1, 0);
             return later(made, node);
         }
 
@@ -3105,10 +3116,10 @@ public final class NeedHouse {
             long last = first;
             for (int k = 1; k < many; k++) {
                 long made = make(BUILT, Datas.CONS, 3);
-                heap[(int) last + 2] = made;
+                setField(last, 2, made);
                 last = made;
             }
-            heap[(int) last + 2] = (long) CON << 32 | Datas.EMPTY;
+            setField(last, 2, (long) CON << 32 | Datas.EMPTY);
             return first;
         }
 
