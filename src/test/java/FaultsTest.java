@@ -119,6 +119,7 @@ public final class FaultsTest {
         House.fault("main = let x = 1\nin x", 2, 2);
         House.fault("main = let x = (1\n           y = 2 in x", 2, 2);
         House.fault("main = let x = case 1 of\n                 1 -> (2\n           y = 1 in x", 2, 3);
+        House.fault("main = let x = case 1 of\n                 1 -> (2\n           y\n             = 1 in x", 2, 3);
         House.fault("main = let x = 1; y = (2; z = 3 in x", 2, 1);
         House.fault("main = let x = 1", 2, 1);
         House.fault("main = let x = 1\n       y = 2", 2, 2);
@@ -169,10 +170,26 @@ public final class FaultsTest {
         House.fault("main = " + times(40, "let x = ") + "1", 8, 1);
         House.fault("main =\n " + times(39, "let x = 1 in ") + "if True then 1 else 2", 8, 2);
         House.fault("main =\n " + times(39, "let x = 1 in ") + "case 1 of _ -> 2", 8, 2);
+        everyPlace();
         House.fine("data T = C " + times(40, "(") + "Int" + times(40, ")") + "\nmain = 1");
+        House.fault("data T = C (Int, " + times(40, "(") + "\n Int", 8, 2);
+        House.fault("data T a = C (T " + times(40, "(") + "\n Int", 8, 2);
         House.fault("data T = C " + times(41, "(") + "\n Int", 8, 2);
         House.fault("data T = C " + times(41, "[") + "\n Int", 8, 2);
         House.fault("data T = C (" + times(40, "Int -> ") + "\n Int)\nmain = 1", 8, 2);
+    }
+
+    /** Each E of an E is one deeper: with 38 brackets around the whole one the E is the 39th, what it has the 40th. */
+    private static void everyPlace() {
+        String[] wholes = {"(@)", "(@, 1)", "(1, @)", "[@]", "[1, @, 1]", "[1, 1, @]", "\\x -> @", "let x = @ in 1",
+            "let x = 1; y = @ in 1", "let x = 1 in @", "if @ == 1 then 1 else 1", "if True then @ else 1",
+            "if True then 1 else @", "case @ of _ -> 1", "case 1 of _ -> @", "case 1 of 2 -> 1; _ -> @", "say (@) 1",
+            "1 + (@)", "(@) * 2"};
+        for (String whole : wholes) {
+            String around = "f = " + times(38, "(") + whole + times(38, ")") + "\nmain = 1";
+            House.fine(around.replace("@", "1"));
+            House.fault(around.replace("@", "(1)"), 8, 1);
+        }
     }
 
     private static void operands() {
@@ -239,6 +256,7 @@ public final class FaultsTest {
         House.fault("data A = B (\n Int Int)\nmain = 1", 6, 2);
         House.fault("data A a = B (\n A a a)\nmain = 1", 6, 2);
         House.fine("data A a = B (A a)\nmain = 1");
+        House.fine("data A a = B (A a -> A a) (A a, A Int) [A [a] -> (A a -> a)]\nmain = 1");
     }
 
     private static void order() {
@@ -248,6 +266,10 @@ public final class FaultsTest {
         House.fault("main = 1\nmain = q", 4, 2);
         House.fault("x = y\nz = 1", 5, 1);
         House.fault("x = 1\ndata A = B B", 5, 2);
+        House.fault("data A = B c\nmain = 1\nmain = 2", 5, 1);
+        House.fault("data A a = B A\ndata A = C\nmain = q", 6, 1);
+        House.fault("f x = q\n\ng x x = 1\nmain = 1", 5, 1);
+        House.fault("f x x = q\nmain = 1", 4, 1);
         // Names come before limits, limits before types.
         House.fault("main = q 1 1 1 1 1 1 1 1 1 1 1 1 1", 5, 1);
         House.fault("main = 1 1 1 1 1 1 1 1 1 1 1 1 1 1", 8, 0);

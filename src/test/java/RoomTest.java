@@ -128,12 +128,7 @@ public final class RoomTest {
         House.due("kept", "count(5)", kept.it.count(5), 6);
         House.due("kept", "count(9)", kept.it.count(9), 0);
         House.due("unasked", "count(5)", House.ran("up n = up (n + 1)\nmain = up 0").it.count(5), 6);
-        // A list of 1,331 numbers has 3,993 CELLS, so 7 can be made still.
-        House.due("edge", "4,000 CELLS", edge("data P = P Int Int Int Int Int Int\n", "P 1 2 3 4 5 6"), 2);
-        House.due("edge", "4,001 CELLS", edge("data P = P Int Int Int Int Int\n", "P 1 2 3 4 (1 + 1)"), 6);
-        House.due("edge", "a FUNCTION with ARGUMENTS, 4,000", edge("data P = P\nf a b c d e g = 1\n", "f 1 2 3 4 5"), 2);
-        House.due("edge", "a FUNCTION with ARGUMENTS, 4,001",
-                edge("data P = P\nf a b c d e g h = 1\n", "f 1 2 3 4 5 6"), 6);
+        edges();
         // The THUNKS by which it ends as ROOM don't count.
         House counted = House.begun("up n = up (n + 1)\nmain = up 0");
         for (int n = 0; n < 3 && counted.it.count(5) == 1; n++) {
@@ -144,8 +139,47 @@ public final class RoomTest {
         House.due("counted", "count(5)", counted.it.count(5), 6);
     }
 
+    /** A list of 1,331 numbers has 3,993 CELLS, so 7 can be made still, and 8 can't. */
+    private static void edges() {
+        edge("", "(1, (2 + 2, 3))", 8);
+        edge("", "(1 + 1, 2 + 2)", 7);
+        edge("", "[1, 2, 3]", 9);
+        edge("", "[1, 2]", 6);
+        edge("", "[1 + 1, 2]", 8);
+        edge("", "1 : 2 : []", 6);
+        edge("", "(\\a -> a, \\b -> b)", 5);
+        edge("", "let a = 1 + 1; b = 2 + a in 1", 5);
+        edge("", "let a = 1 + 1; b = 2 + a; c = a in 1", 8);
+        edge("", "let a = 1 + 1; b = 2 + a; c = \\x -> x in 1", 6);
+        edge("", "let a = 1 + 1; b = 2 + a; c = \\x -> a in 1", 7);
+        edge("", "let a = 1 + 1; b = 2 + a; c x = a + b + x in 1", 8);
+        edge("data P = P Int Int Int Int Int Int\n", "P 1 2 3 4 5 6", 7);
+        edge("data P = P Int Int Int Int Int\n", "P 1 2 3 4 (1 + 1)", 8);
+        edge("f a b c d = 1\n", "f (1 + 1) (2 + 2) (3 + 3) 4", 6);
+        edge("f a b c d = 1\n", "f (1 + 1) (2 + 2) (3 + 3) (4 + 4)", 8);
+        // A FUNCTION with ARGUMENTS: 2 and as many, with those that are made for it.
+        edge("f a b c d e g = 1\n", "f 1 2 3 4 5", 7);
+        edge("f a b c d e g h = 1\n", "f 1 2 3 4 5 6", 8);
+        edge("f a b c = 1\n", "f (1 + 1) 2", 2 + 4);
+        edge("f a b c = 1\n", "f (1 + 1) (2 + 2)", 4 + 4);
+        // The one that gets more is THERE still.
+        edge("f a b c = 1\n", "(f 1) 2", 3 + 4);
+        edge("f a b c d = 1\n", "((f 1) 2) 3", 4 + 5);
+        // A constructor that gets its last one.
+        edge("data P = P Int Int Int Int Int Int\np = P\n", "p 1 2 3 4 5 6", 7);
+        edge("data P = P Int Int Int\np = P\n", "p 1 (2 + 2) 3", 6);
+        edge("data P = P Int Int Int\np = P\n", "p 1 (2 + 2) (3 + 3)", 8);
+        edge("data P = P Int Int Int\n", "(P 1) 2 3", 3 + 4);
+        edge("data P = P Int Int Int\n", "(P 1 2) 3", 4 + 4);
+    }
+
+    /** What is made has so many CELLS, with what it needs for that. */
+    private static void edge(String head, String made, int cells) {
+        House.due(made, "ends", endOf(head, made), cells > 7 ? 6 : 2);
+    }
+
     /** How a run ends that makes something while it holds a list of 3,993 CELLS. */
-    private static int edge(String head, String made) {
+    private static int endOf(String head, String made) {
         return House.ran(head + "rep n xs = if n == 0 then xs else rep (n - 1) (0 : xs)\n"
                 + "keep xs = case " + made + " of _ -> case xs of x : _ -> x\n"
                 + "walk n xs = case n of 0 -> 0; _ -> case xs of _ : ys -> walk (n - 1) ys\n"

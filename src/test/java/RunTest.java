@@ -133,6 +133,15 @@ public final class RunTest {
         whole("i x = x\nmain = let x = 1 in i x", 5, 0, 1, "1");
         whole("main = let xs = 1 : ys; ys = [2] in xs", 7, 0, 1, "[1,2]");
         whole("main = let f x = y x; y = \\z -> 4 in f 3", 7, 0, 1, "4");
+        // What stands FREE in it goes with a THUNK, a FUNCTION, a branch and an operand.
+        whole("f a b c = let t = a * 100 + b * 10 + c in t + t\nmain = f 1 2 3", 16, 1, 2, "246");
+        House.shows("f a b c = \\d -> a * 1000 + b * 100 + c * 10 + d\ng h = h 4\nmain = g (f 1 2 3)", "1234");
+        House.shows("f a b c = if c < a then 0 else f c a b + a * 100 + b * 10 + c\nmain = f 1 2 3", "123");
+        House.shows("f a b c = (case (if a == 0 then 0 else f (a - 1) c b) of x -> x + a + 10 * b + 100 * c)\n"
+                + "main = f 1 2 3", "554");
+        House.shows("f a b = let g x = if x == 0 then a else h (x - 1); h x = if x == 0 then b else g (x - 1) in (g 5, h 5)\n"
+                + "main = f 1 2", "(2,1)");
+        House.shows("f a b = let xs = a : ys; ys = b : xs in case ys of _ : zs -> case zs of z : _ -> z\nmain = f 7 8", "7");
         // THUNKS in fields of the PROGRAM's VALUES count, those of its DEFINITIONS don't.
         whole("a = 1 + 1\nb = [a, 1 + 1, a + a]\nmain = 0", 1, 2, 0, "0");
     }

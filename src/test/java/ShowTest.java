@@ -130,6 +130,9 @@ public final class ShowTest {
         global(house, 0, 2, 0, 6);
         global(house, 1, 2, 0, 5);
         global(house, 2, 2, 0, 6);
+        House bools = House.ran("x = False\ny = 1 < 1\nmain = y");
+        global(bools, 0, 2, 1, 0);
+        global(bools, 1, 2, 1, 0);
         House loop = House.ran("x = y\ny = x\nmain = x");
         global(loop, 0, 1, -1, -1);
         global(loop, 1, 1, -1, -1);

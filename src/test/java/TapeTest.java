@@ -55,6 +55,12 @@ public final class TapeTest {
         House.due("feed", "byte 0", it.read(), 1 + 16);
     }
 
+    private static void ends(String text, int gone, int want) {
+        House house = new House().tape(text);
+        house.it.back(gone);
+        House.due(text, "read() without its last " + gone, house.it.read(), want);
+    }
+
     private static void back() {
         NeedHouse it = new NeedHouse();
         it.feed(0x6d61696e, 0x203d2037, 0x00202020, 0x20202020, 0x20202020);
@@ -68,5 +74,15 @@ public final class TapeTest {
         House.due("back", "back(1)", it.back(1), -1);
         it.feed(1, 2, 3, 4, 5);
         House.due("back", "all", it.back(20), 0);
+        // What went is not read.
+        ends("main = 1--", 1, 2 + 16);
+        ends("main = 1 -- ((", 0, 0);
+        ends("main = 12", 1, 0);
+        ends("mains = 1; main = ma", 2, 2 + 16);
+        ends("main = xs; x = 1", 7, 5 + 16);
+        ends("main = 1 \n)", 1, 0);
+        ends("main = 21474836470", 1, 0);
+        ends("main = 1 == 2", 2, 2 + 16);
+        ends("main = 1 ==", 1, 2 + 16);
     }
 }

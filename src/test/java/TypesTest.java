@@ -98,6 +98,9 @@ public final class TypesTest {
         // Within a GROUP there are no COPIES.
         House.fault("f x = x\nmain = g 1\ng y = (h\n True, h\n 2)\nh z = case 1 of 1 -> z; _ -> case g 1 of _ -> z", 7, 5);
         House.fine("g y = (h True, h 2)\nh z = z\nmain = 1");
+        House.fault("f x = let g = f in case 1 of 1 -> x; 2 -> (case g 1 of _ -> case g\n"
+                + " ".repeat(80) + "True of _ -> x)\nmain = 1", 7, 2);
+        sign("f x y = let g z = (z, y) in (g, let h w = (x, w) in h)", "f :: a -> b -> (c -> (c,b),d -> (a,d))");
     }
 
     private static void faults() {
@@ -120,6 +123,15 @@ public final class TypesTest {
         House.fault("main = (\\x -> x\n x) 1", 7, 2);
         House.fault("main = (\n 1 +\n True)", 7, 3);
         House.fault("main = True : [\n 1]", 7, 1);
+        // No UNKNOWN stands in what it becomes, in whichever part.
+        House.fault("f x = [x,\n (x, 1)]\nmain = 1", 7, 2);
+        House.fault("f x = [x,\n (1, x)]\nmain = 1", 7, 2);
+        House.fault("f x = [x,\n [x]]\nmain = 1", 7, 2);
+        House.fault("f x = [x,\n \\y -> x]\nmain = 1", 7, 2);
+        House.fault("f x = [x,\n \\y -> case [x, y] of _ -> 1]\nmain = 1", 7, 2);
+        House.fault("f x y = [(x, y),\n (y, [x])]\nmain = 1", 7, 2);
+        House.fault("data D a b = D a b\nf x = [x,\n D 1 x]\nmain = 1", 7, 3);
+        sign("f x y = [(x, y), (y, x)]", "f :: a -> a -> [(a,a)]");
         House.fault("data A = B Int\nmain = B\n True", 7, 3);
         House.fault("data A a = B a a\nmain = B 1\n True", 7, 3);
         House.fault("data A = B (Int -> Int)\nmain = B\n 1", 7, 3);
