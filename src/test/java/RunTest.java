@@ -138,7 +138,7 @@ public final class RunTest {
         House.shows("f a b c = \\d -> a * 1000 + b * 100 + c * 10 + d\ng h = h 4\nmain = g (f 1 2 3)", "1234");
         House.shows("f a b c = if c < a then 0 else f c a b + a * 100 + b * 10 + c\nmain = f 1 2 3", "123");
         House.shows("f a b c = (case (if a == 0 then 0 else f (a - 1) c b) of x -> x + a + 10 * b + 100 * c)\n"
-                + "main = f 1 2 3", "554");
+                + "main = f 1 2 3", "551");
         House.shows("f a b = let g x = if x == 0 then a else h (x - 1); h x = if x == 0 then b else g (x - 1) in (g 5, h 5)\n"
                 + "main = f 1 2", "(2,1)");
         House.shows("f a b = let xs = a : ys; ys = b : xs in case ys of _ : zs -> case zs of z : _ -> z\nmain = f 7 8", "7");
