@@ -5,6 +5,7 @@ public final class NeedsTest {
         lets();
         calls();
         greatest();
+        many();
         noneSuch();
         House.end();
     }
@@ -82,6 +83,31 @@ public final class NeedsTest {
         needs("f n a = if n == 0 then a else g n a\ng n a = f (n - 1) a", "11");
         needs("f x y = g x y\ng x y = f y x", "11");
         needs("f x y = if True then g x y else y\ng x y = if True then f y x else x", "00");
+    }
+
+    /** Names beyond the 64th and the 128th are told apart, too. */
+    private static void many() {
+        StringBuilder text = new StringBuilder("main = 1\n");
+        for (int k = 0; k < 33; k++) {
+            text.append("d").append(k).append(" a b c d = case (let e = c in a) of d -> d\n");
+        }
+        House house = House.of(text.toString());
+        for (int k = 0; k < 33; k++) {
+            House.due("many " + k, "strict", house.stricts(k + 1), "1000");
+        }
+        StringBuilder chain = new StringBuilder("main = 1\n");
+        for (int k = 0; k < 50; k++) {
+            chain.append("d").append(k).append(" a b c = d").append((k + 1) % 50).append(" c a b\n");
+        }
+        House all = House.of(chain.toString());
+        for (int k = 0; k < 50; k++) {
+            House.due("chain " + k, "strict", all.stricts(k + 1), "111");
+        }
+        House one = House.of(chain.toString().replace("d49 a b c = d0 c a b", "d49 a b c = b"));
+        for (int k = 0; k < 50; k++) {
+            String want = k % 3 == 1 ? "010" : k % 3 == 0 ? "100" : "001";
+            House.due("chain to one " + k, "strict", one.stricts(k + 1), want);
+        }
     }
 
     private static void noneSuch() {

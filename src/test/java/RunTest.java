@@ -142,8 +142,21 @@ public final class RunTest {
         House.shows("f a b = let g x = if x == 0 then a else h (x - 1); h x = if x == 0 then b else g (x - 1) in (g 5, h 5)\n"
                 + "main = f 1 2", "(2,1)");
         House.shows("f a b = let xs = a : ys; ys = b : xs in case ys of _ : zs -> case zs of z : _ -> z\nmain = f 7 8", "7");
+        // So it does when there are many names, and when what is not THERE has been given up often.
+        House.shows(many(70) + "f a b c = let g d = a - b * d in g c\nmain = f 100 7 6", "58");
+        House.shows("f n a b c = if n == 0 then [a, b, c] else f (n - 1) b c a\nmain = f 3000 [1] [2] [3]", "[[1],[2],[3]]");
+        House.shows("f n g h = if n == 0 then g n + h n else let k = \\x -> g x + 1; m = \\x -> h x + 2 in "
+                + "if n > 100 then f (n - 1) g h else f (n - 1) k m\nmain = f 2000 (\\x -> x) (\\x -> 5 - x)", "305");
         // THUNKS in fields of the PROGRAM's VALUES count, those of its DEFINITIONS don't.
         whole("a = 1 + 1\nb = [a, 1 + 1, a + a]\nmain = 0", 1, 2, 0, "0");
+    }
+
+    private static String many(int n) {
+        StringBuilder text = new StringBuilder();
+        for (int k = 0; k < n / 2; k++) {
+            text.append("d").append(k).append(" x = x\n");
+        }
+        return text.toString();
     }
 
     private static void functions() {
@@ -176,6 +189,7 @@ public final class RunTest {
         House.shows("main = [1 < 2, 2 <= 2, 1 > 2, 2 >= 3, 1 == 1, 1 /= 1]", "[True,True,False,False,True,False]");
         House.shows("main = 1 + 2 < 4 && 5 > 4 || 1 / 0 == 0", "True");
         House.shows("main = True || True && False", "True");
+        House.shows("main = False && False || True", "True");
         House.shows("main = 1 + 1 : 2 * 2 : []", "[2,4]");
     }
 
