@@ -13,10 +13,23 @@ final class House {
                 int c = at + k < text.length() ? text.charAt(at + k) : ' ';
                 row[k / 4] = row[k / 4] << 8 | c & 255;
             }
-            it.feed(row[0], row[1], row[2], row[3], row[4]);
+            fits(text, it.feed(row[0], row[1], row[2], row[3], row[4]));
         }
         it.back((20 - text.length() % 20) % 20);
         return this;
+    }
+
+    /** A test whose text is too long for the TAPE tests something else than it says. */
+    private static void fits(String text, int fed) {
+        if (fed == NeedHouse.NONE) {
+            wrong++;
+            System.out.println(clipped(text) + ": has no room on the TAPE");
+        }
+    }
+
+    private static String clipped(String text) {
+        String line = text.replace("\n", "\\n");
+        return line.length() <= 300 ? line : line.substring(0, 100) + " .. " + line.substring(line.length() - 200);
     }
 
     static House of(String text) {
@@ -28,7 +41,7 @@ final class House {
     /** A program that is begun. */
     static House begun(String text) {
         House house = of(text);
-        house.it.begin();
+        due(text, "begin()", house.begin(), "begun");
         return house;
     }
 
@@ -47,6 +60,23 @@ final class House {
 
     static void fine(String text) {
         due(text, "read()", new House().tape(text).it.read(), 0);
+    }
+
+    /**
+     * A fault of a kind at the token behind the @. Each @ and each ~ is a line's end, with blanks behind it up to a column
+     * that is greater than those of all BLOCKS, so that the token stands alone on its line and nothing else changes.
+     */
+    static void faultAt(String text, int kind) {
+        int line = 1;
+        int at = 0;
+        StringBuilder laid = new StringBuilder();
+        for (char c : text.toCharArray()) {
+            boolean mark = c == '@' || c == '~';
+            line += mark || c == '\n' ? 1 : 0;
+            at = c == '@' ? line : at;
+            laid.append(mark ? "\n" + " ".repeat(200 + line) : "" + c);
+        }
+        due(text, "read()", new House().tape(laid.toString()).it.read(), kind + 16 * at);
     }
 
     String text() {
@@ -77,7 +107,7 @@ final class House {
         made++;
         if (got != want) {
             wrong++;
-            System.out.println(where.replace("\n", "\\n") + ": " + call + " answered " + got + ", due is " + want);
+            System.out.println(clipped(where) + ": " + call + " answered " + got + ", due is " + want);
         }
     }
 
@@ -85,7 +115,7 @@ final class House {
         made++;
         if (!got.equals(want)) {
             wrong++;
-            System.out.println(where.replace("\n", "\\n") + ": " + call + " answered " + got + ", due is " + want);
+            System.out.println(clipped(where) + ": " + call + " answered " + got + ", due is " + want);
         }
     }
 
@@ -99,6 +129,43 @@ final class House {
         House house = ran(text);
         due(text, "count(5)", house.it.count(5), state);
         due(text, "count(6)", house.it.count(6), steps);
+    }
+
+    /** What run(n) answers, or "argument", "state" for the exception that it throws. */
+    String run(int n) {
+        try {
+            return "" + it.run(n);
+        } catch (IllegalArgumentException e) {
+            return "argument";
+        } catch (IllegalStateException e) {
+            return "state";
+        }
+    }
+
+    /** What begin() does: "begun", or "state" for the exception that it throws. */
+    String begin() {
+        try {
+            it.begin();
+            return "begun";
+        } catch (IllegalStateException e) {
+            return "state";
+        }
+    }
+
+    /** All that can be asked of the run and of the program, for what must not change. */
+    String all() {
+        StringBuilder all = new StringBuilder();
+        for (int what = 0; what <= 12; what++) {
+            all.append(it.count(what)).append(' ');
+        }
+        for (int k = 0; k < 12; k++) {
+            all.append(it.sign(0, k)).append(' ').append(it.shown(k)).append(' ').append(it.said(k)).append(' ');
+        }
+        for (int i = 0; i < 4; i++) {
+            all.append(it.group(i)).append(' ').append(it.strict(i, 0)).append(' ').append(it.global(i, 0)).append(' ');
+            all.append(it.global(i, 1)).append(' ').append(it.global(i, 2)).append(' ');
+        }
+        return all.toString();
     }
 
     static void end() {
