@@ -158,10 +158,10 @@ final class House {
         for (int what = 0; what <= 12; what++) {
             all.append(it.count(what)).append(' ');
         }
-        for (int k = 0; k < 12; k++) {
+        for (int k = 0; k < 3; k++) {
             all.append(it.sign(0, k)).append(' ').append(it.shown(k)).append(' ').append(it.said(k)).append(' ');
         }
-        for (int i = 0; i < 4; i++) {
+        for (int i = 0; i < 3; i++) {
             all.append(it.group(i)).append(' ').append(it.strict(i, 0)).append(' ').append(it.global(i, 0)).append(' ');
             all.append(it.global(i, 1)).append(' ').append(it.global(i, 2)).append(' ');
         }
