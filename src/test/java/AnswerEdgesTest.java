@@ -241,22 +241,42 @@ public final class AnswerEdgesTest {
         House.due("other", "sign(0)", other.sign(0), "y :: Int");
     }
 
-    /** One program behind another in one object, greater ones and smaller ones. */
+    /** Programs that differ in all that can be told of one, and texts with a fault of each kind. */
+    private static final String[] TEXTS = {
+        "main = 7",
+        "data T a = L | N (T a) a (T a)\ng n = if n == 0 then L else N (g (n - 1)) n (g (n - 1))\nmain = g 2",
+        "x = [1 + 1, 2]\nmain = case x of y : ys -> say y (y, ys)\nk a b c = b",
+        "main = let a = 1 + b; b = 2; f x = a + x in [f 1, f a]\ni a = a\nj b = \\c -> b + c",
+        "up n = up (n + 1)\nh a b = a && b\nmain = say 3 (up 0)",
+        "data P a b = P a b | Q (b -> a)\nf g = Q g\np = P 1\nmain = (p True, (p [], f p))",
+        "f n = 1 + f n\ng x y = f x\nmain = g 1 2 : []",
+        "main = [[], [1, 2, 3], 4 : []]\nodd n = n /= 0 && even (n - 1)\neven n = n == 0 || odd (n - 1)",
+        "a = 1 + True\nmain = #", "f x = (((case x of y : z -> )", " f x y = x\ng", "main = let x = 1; x = y in z",
+        "data T a = C b\nmain = T", "data T a = C T\nmain = case C of C a b c -> 1", "f x = x x\nmain = f f",
+        "main = [1, 2, 3, 4, 5, 6, 7, 8, 9, 10, 11, 12, 13]"};
+    private static final int GOOD = 8;
+
+    /** One program behind another in one object, whatever was there: all is as in a new one. */
     private static void manyPrograms() {
-        House house = new House();
-        String big = "data T a = L | N (T a) a (T a)\ng n = if n == 0 then L else N (g (n - 1)) n (g (n - 1))\nmain = g 2";
-        for (int n = 0; n < 4; n++) {
-            House.due("many", "read", house.tape(big).it.read(), 0);
-            house.begin();
-            house.run(2000);
-            House.due("many", "text", house.text(), "(N (N L 1 L) 2 (N L 1 L))");
-            House.due("many", "fault", house.tape("data T = T | T").it.read(), 4 + 16);
-            House.due("many", "read", house.tape("main = T").it.read(), 5 + 16);
-            House.due("many", "read", house.tape("main = 6").it.read(), 0);
-            House.due("many", "count(3)", house.it.count(3), 0);
-            house.begin();
-            house.run(1);
-            House.due("many", "text", house.text(), "6");
+        for (String first : TEXTS) {
+            for (int k = 0; k < TEXTS.length; k++) {
+                House used = new House().tape(first);
+                if (used.it.read() == 0) {
+                    used.begin();
+                    used.run(25);
+                    used.sign(0);
+                }
+                House fresh = new House().tape(TEXTS[k]);
+                House.due(TEXTS[k], "read() behind " + first, used.tape(TEXTS[k]).it.read(), fresh.it.read());
+                House.due(TEXTS[k], "begin() behind " + first, used.begin(), k < GOOD ? "begun" : "state");
+                fresh.begin();
+                for (int n = 0; n < 5; n++) {
+                    House.due(TEXTS[k], "all behind " + first + ", " + n, used.all(), fresh.all());
+                    House.due(TEXTS[k], "run behind " + first + ", " + n, used.run(6 + n), fresh.run(6 + n));
+                }
+                House.due(TEXTS[k], "sign behind " + first, used.sign(1), fresh.sign(1));
+                House.due(TEXTS[k], "strict behind " + first, used.stricts(1), fresh.stricts(1));
+            }
         }
     }
 }

@@ -281,10 +281,14 @@ public final class GrammarEdgesTest {
         House.fault("main = (case 1 of\n)", 2, 2);
         House.fault("main = " + deep + "\n )", 2, 2);
         House.fault("main = " + deep + "\n + 1", 2, 2);
+        House.fault("data T = C " + times(41, "(") + "\n )", 2, 2);
+        House.fault("data T = C " + times(41, "[") + "\n ]", 2, 2);
+        House.fault("data T = C " + times(41, "(") + "\n -> Int", 2, 2);
         House.fault("main = " + times(20, "1 + ") + "\n if", 2, 2);
         House.fault("main = " + times(20, "1 + ") + "\n + 1", 2, 2);
         // 3 ahead of 8.
         House.fault(" main = " + deep + "\n1", 3, 2);
+        House.fault(" data T = C " + times(41, "(") + "\nInt", 3, 2);
         House.fault(" main = " + times(20, "1 + ") + "\n1", 3, 2);
         House.fault(" main = " + times(19, "1 + ") + "\n1", 3, 2);
     }

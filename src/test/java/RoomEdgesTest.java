@@ -22,6 +22,11 @@ public final class RoomEdgesTest {
         roomAheadOfDeep();
         countsOfCells();
         countsOfWaits();
+        argumentsThatWent();
+        builtByAndBy();
+        manyVariablesWait();
+        manyVariablesFree();
+        freeOfMostNames();
         House.end();
     }
 
@@ -88,6 +93,20 @@ public final class RoomEdgesTest {
         cells("i a = 1\n", "i (rep 1 xs)", 3);
         cells("i a b = 1\n", "i (1 + 1) (2 + 2)", 4);
         cells("i a b = 1\n", "i (1 + 1, [2 + 2]) 5", 3 + 2 + 3 + 2);
+        // FREE in a let, a case, a \\ and a list is what is told outside of it, and that once.
+        cells("", "[let a = 1 + 1 in a]", 3 + 2);
+        cells("", "[let a = 1 in (xs, a)]", 3 + 3);
+        cells("", "[let a = k in (a, xs)]", 3 + 4);
+        cells("", "[let a b = (b, k); c = xs in (a 1, c)]", 3 + 4);
+        cells("", "[case xs of a : b -> (a, b)]", 3 + 3);
+        cells("", "[case 1 of a -> (a, k)]", 3 + 3);
+        cells("", "[case k of a -> (a, k)]", 3 + 3);
+        cells("", "[(\\a -> (a, xs)) 1]", 3 + 3);
+        cells("", "[(\\a b -> k) 1 xs]", 3 + 4);
+        cells("", "[if True then xs else []]", 3 + 3);
+        cells("", "[case xs of [] -> 1; _ -> case k of _ -> 2]", 3 + 4);
+        cells("", "[True && (case xs of _ -> case k of _ -> True)]", 3 + 4);
+        cells("", "[rep 1 (rep 2 (rep 3 xs))]", 3 + 3);
         // A NUMBER and a variable are that.
         cells("i a b c = 1\n", "i xs 5 (1 + 1)", 2);
         cells("x = 1 + 1\ni a b c = 1\n", "i x rep (1 + 1)", 2);
@@ -304,6 +323,76 @@ public final class RoomEdgesTest {
         House.due("6 CELLS", "count(5)", House.ran(text.replace("#", "f (1 + 1) (1 + 1) (1 + 1)")).it.count(5), 6);
         House.due("no CELLS", "count(5)", House.ran(text.replace("#", "f 1 1 1")).it.count(5), 7);
         House.due("no CALL", "count(5)", House.ran(text.replace("#", "w")).it.count(5), 2);
+    }
+
+    /** What was given to a FUNCTION is THERE no longer, if what came is not. */
+    private static void argumentsThatWent() {
+        there("f a b = a\nmain = case f [1, 2] of _ -> 5 + 6", 3, 6, 3);
+        there("f a b = a\nmain = case f [1, 2] of _ -> 5 + 6", 4, 0, 1);
+        there("data P a = P a a\np = P\nmain = case p [1] [2, 3] of _ -> 5 + 6", 3, 9, 3);
+        there("data P a = P a a\np = P\nmain = case p [1] [2, 3] of _ -> 5 + 6", 4, 0, 1);
+        there("data P a = P a a\np = P\nmain = case p [1] [2, 3] of P a b -> case 5 of _ -> b", 4, 6, 1);
+        there("main = case \\x -> x of _ -> 5 + 6", 3, 0, 1);
+        there("main = case \\x -> x of f -> (f 5, 6)", 3, 1, 1);
+        there("f a = 5 + 6\nmain = f [1, 2]", 3, 0, 1);
+        there("f a = 5 + 6\nmain = f [1, 2]", 2, 6, 2);
+        there("f a = \\b -> 5 + 6\nmain = f [1] [2, 3]", 3, 6, 2);
+        there("f a = \\b -> 5 + 6\nmain = f [1] [2, 3]", 4, 0, 1);
+        there("main = say 1 ((\\a -> 5 + 6) [1])", 4, 2, 1);
+        there("main = say 1 ((\\a -> 5 + 6) [1])", 5, 2, 2);
+        there("main = say 1 ((\\a -> 5 + 6) [1])", 6, 5, 3);
+        there("main = say 1 ((\\a -> 5 + 6) [1])", 7, 2, 2);
+    }
+
+    /** A constructor that got its last ARGUMENT by and by is as good as one that is written so. */
+    private static void builtByAndBy() {
+        String p = "data P a = P a a a\np = P 1\n";
+        House.shows(p + "main = case p 2 3 of q -> case [4, 5] of r -> (q, r)", "((P 1 2 3),[4,5])");
+        House.shows(p + "main = case p 2 of q -> case (q 3, q 4) of (r, s) -> [r, s, r]", "[(P 1 2 3),(P 1 2 4),(P 1 2 3)]");
+        House.shows("f a b c = [a, b, c]\ng = f 1\nmain = case g 2 of q -> case [4, 5] of r -> [q 3, r, q 6]",
+                "[[1,2,3],[4,5],[1,2,6]]");
+        House.shows("main = case \\a b -> (a, b) of f -> case f 1 of g -> case [4] of h -> (g h, f 2 h)", "((1,[4]),(2,[4]))");
+    }
+
+    /** Far more variables than CELLS may WAIT, as numbers have none. */
+    private static void manyVariablesWait() {
+        House house = House.ran("f a b c d e g h n = \\i j k l -> if n == 0 then 0 else f a b c d e g h (n - 1) i j k l + "
+                + "(a + b + c + d + e + g + h + i + j + k + l)\nmain = f 1 2 3 4 5 6 7 900 8 9 10 11");
+        House.due("900", "count(5)", house.it.count(5), 2);
+        House.due("900", "text", house.text(), "" + 900 * 66);
+    }
+
+    /** Many variables stand FREE in many Es: 18 rows of 8, and sums of those of the first 16. */
+    private static void manyVariablesFree() {
+        StringBuilder text = new StringBuilder("main=");
+        StringBuilder sum = new StringBuilder();
+        StringBuilder arguments = new StringBuilder();
+        for (int row = 10; row < 28; row++) {
+            String names = "a# b# c# d# e# f# g# h#".replace("#", "" + row);
+            text.append("(\\").append(names).append("->");
+            sum.append(row > 25 ? "" : (row == 10 ? "(" : "+(") + names.replace(" ", "+") + ")");
+            arguments.append(")1 2 3 4 5 6 7 8");
+        }
+        text.append("(" + sum + ")-(" + sum + ")+(" + sum + ")");
+        House house = House.ran(text.append(arguments).toString());
+        House.due("144 variables", "text", house.text(), "" + 16 * 36);
+    }
+
+    /** Each of 60 DEFINITIONS, 300 names in all: what stands FREE in their THUNKS. */
+    private static void freeOfMostNames() {
+        StringBuilder text = new StringBuilder("main=d# 1 2 3\n");
+        for (int k = 10; k < 69; k++) {
+            text.append("d").append(k).append(" a b c=let t=a+b*c in[t]\n");
+        }
+        for (int k = 10; k < 69; k++) {
+            House house = House.begun(text.toString().replace("#", "" + k));
+            house.run(4);
+            House.due("d" + k, "count(9)", house.it.count(9), 5);
+            house.run(1);
+            House.due("d" + k, "count(9) of the list", house.it.count(9), 5 + 3);
+            house.run(2000);
+            House.due("d" + k, "text", house.text(), "[7]");
+        }
     }
 
     private static void there(String text, int steps, int cells, int waits) {

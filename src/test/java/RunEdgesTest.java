@@ -168,6 +168,17 @@ public final class RunEdgesTest {
         House.shows("main = case 1 of x -> x + 5; 1 -> 3", "6");
         House.shows("main = case [1] of [] -> 2; x : y -> 3", "3");
         House.shows("main = case [1] of x : _ -> x; x : y -> 3", "1");
+        // However a list came to be, its end is [ ], and what is ahead of that a : .
+        String sum = "sum xs = case xs of [] -> 0; y : ys -> y + sum ys\nsame n = if n == 0 then [] else n : same (n - 1)\n";
+        House.shows(sum + "main = sum [1, 2, 3]", "6");
+        House.shows(sum + "main = sum (1 : 2 : 3 : [])", "6");
+        House.shows(sum + "main = sum (1 : [2, 3])", "6");
+        House.shows(sum + "main = sum (same 3)", "6");
+        House.shows(sum + "xs = [1, 2, 3]\nmain = sum xs + sum xs", "12");
+        House.shows(sum + "main = sum []", "0");
+        House.shows("main = case (1, True) of (x, y) -> case y of False -> 0; True -> x", "1");
+        House.shows("data T = A | B Int | C Int Int\nf t = case t of C x y -> x - y; B x -> x; A -> 0\nmain = [f A, f (B 5), f (C 9 2)]",
+                "[0,5,7]");
     }
 
     /** "&& ||: the left one; then the right one, if that is not the answer yet". */

@@ -19,6 +19,7 @@ public final class TypeEdgesTest {
         free();
         sizes();
         sizesOfLets();
+        farGreater();
         sizeAmongFaults();
         mainLast();
         signs();
@@ -347,6 +348,29 @@ public final class TypeEdgesTest {
         House.faultAt("p x = (x, x); q x = p (p x); r x = q (q x); @s~ x = r (q x); main = 1", 8);
     }
 
+    /** Types that no DEFINITION has may be far greater: lists in lists, pairs in pairs, and what is told twice each time. */
+    private static void farGreater() {
+        String lists = "i x = " + times(37, "[") + "x" + times(37, "]") + "\n";
+        String pairs = "i x = " + times(18, "(1, ") + "x" + times(18, ")") + "\n";
+        String twice = "i x = (x, x)\n";
+        for (String i : new String[] {lists, pairs, twice}) {
+            String tower = times(35, "i (") + "@" + times(35, ")");
+            String one = tower.replace("@", "1");
+            House.fine(i + "main = case [" + one + ", " + one + "] of _ -> 1");
+            House.fault(i + "main = case [" + one + ",\n " + tower.replace("@", "True") + "] of _ -> 1", 7, 3);
+            String two = "main = case " + one + " of a -> case " + tower.replace("@", "a") + " of b -> ";
+            House.fine(i + two + "case [b, b] of _ -> 1");
+            House.fault(i + two + "case [b,\n" + " ".repeat(900) + "a] of _ -> 1", 7, 3);
+            House.fault(i + "f x = [x,\n " + tower.replace("@", "x") + "]\nmain = 1", 7, 3);
+            House.fault(i + "f x = [" + tower.replace("@", "x") + ",\n x]\nmain = 1", 7, 3);
+        }
+        // Many COPIES of one great type.
+        String d = "d = (\\x -> x, " + times(11, "([], ") + "1" + times(11, ")") + ")\n";
+        String row = "[d, d, d, d, d, d, d, d, d, d, d, d]";
+        House.fine(d + "main = case [" + times(11, row + ", ") + row + "] of _ -> 1");
+        House.fault(d + "main = case [" + times(11, row + ", ") + "\n [d, d, d,\n 1]] of _ -> 1", 7, 4);
+    }
+
     /** "8 at a DEFINITION's NAME then": behind the 7s of its GROUP, by the order of the GROUPS. */
     private static void sizeAmongFaults() {
         String big = times(20, "(1,") + "1" + times(20, ")");
@@ -413,6 +437,9 @@ public final class TypeEdgesTest {
         sign("f x = B (x + 1)", "Int -> B Int");
         sign("f = B (\\x -> B (x + 1))", "B (Int -> B Int)");
         sign("f = B (\\g -> g 1 + 1)", "B ((Int -> Int) -> Int)");
+        // So it is for the first DATA and for the last.
+        House first = House.of("data Z a = Z a\ndata Y a = Y a\nf = Z (Z (Y (Y (Z 1))))\nmain = 1");
+        House.due("first", "sign", first.sign(0), "f :: Z (Z (Y (Y (Z Int))))");
     }
 
     /** "its UNKNOWNS are a .. z, a1 .. z1, .., in the order in which they come there". */
