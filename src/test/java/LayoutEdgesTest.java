@@ -19,6 +19,7 @@ public final class LayoutEdgesTest {
         onlyFirstOfLine();
         programNeverEnds();
         closersEndBlocks();
+        closersThatBeginLines();
         commaEndsBlocks();
         inEndsItsOwnBlock();
         emptyItems();
@@ -275,6 +276,25 @@ public final class LayoutEdgesTest {
         // Behind of another BLOCK begins, to which the ; belongs: the outer case has no ITEM that fits.
         String behind = "main = case 2 of 1 -> case case 1 of 1 -> 2 of 2 -> 3; 2 -> 4";
         House.due(behind, "count(5)", House.ran(behind).it.count(5), 4);
+    }
+
+    /** A closer as the first LEXEME of a line: left of the BLOCK, in its column (an empty ITEM ends) and right of it. */
+    private static void closersThatBeginLines() {
+        for (int column = 0; column <= 4; column++) {
+            String line = "\n" + blanks(column);
+            String[] texts = {"main = (case 1 of\n  1 -> 2" + line + ")", "main = [case 1 of\n  1 -> 2" + line + "]",
+                "main = (case 1 of\n  1 -> 2" + line + ", 3)", "main = let\n  x = 2" + line + "in x",
+                "main = if case 1 of\n  1 -> True" + line + "then 2 else 3", "main = if True then case 1 of\n  1 -> 2" + line
+                + "else 3", "main = case case 1 of\n  1 -> 2" + line + "of 2 -> 2"};
+            String[] shown = {"2", "[2]", "(2,3)", "2", "2", "2", "2"};
+            for (int k = 0; k < texts.length; k++) {
+                if (column == 0) {
+                    House.fault(texts[k], 2, 3);
+                } else {
+                    House.shows(texts[k], shown[k]);
+                }
+            }
+        }
     }
 
     /** "a , those behind the last ( or [ that is OPEN". */
