@@ -17,6 +17,7 @@ public final class NameEdgesTest {
         nearest();
         firstToken();
         leastOfOneToken();
+        manyNames();
         behindTheText();
         House.end();
     }
@@ -262,6 +263,40 @@ public final class NameEdgesTest {
         House.faultAt("main = case 1 of @Q~ x y -> 1", 5);
         House.faultAt("x = 1; @x~ = q", 4);
         House.faultAt("data A a @a~ = B c; main = 1", 4);
+    }
+
+    /** All of more than a thousand NAMES are told apart: 4 there is none, and they are too many for a DATA. */
+    private static void manyNames() {
+        StringBuilder text = new StringBuilder("data A");
+        String second = "abcdefghijklmnopqrstuvwxyzABCDEFGHIJKLMNOPQRSTUVWXYZ0123456789";
+        for (char first = 'a'; first <= 't'; first++) {
+            for (char c : second.toCharArray()) {
+                String name = "" + first + c;
+                text.append(name.equals("if") || name.equals("in") || name.equals("of") ? "" : " " + name);
+            }
+        }
+        House.fault(text + "=B\nmain=1", 8, 0);
+        House.fault(text + "\n t9=B\nmain=1", 4, 2);
+        House.fault(text + "\n aa=B\nmain=1", 4, 2);
+        House.fault(text + "=B\n ua\nmain=1", 5, 2);
+        House.fault(text + "=B\n t9\nmain=1", 8, 0);
+        manyNamesOfThree();
+    }
+
+    /** 900 NAMES without any order. */
+    private static void manyNamesOfThree() {
+        String letters = "abcdefghijklmnopqrstuvwxyz";
+        for (int round = 0; round < 4; round++) {
+            java.util.Set<String> names = new java.util.LinkedHashSet<>();
+            for (long seed = round; names.size() < 900; seed = seed * 6364136223846793005L + 1442695040888963407L) {
+                int k = (int) (seed >>> 33) % (26 * 26 * 26);
+                String name = "" + letters.charAt(k % 26) + letters.charAt(k / 26 % 26) + letters.charAt(k / 676);
+                if (!name.equals("let")) {
+                    names.add(name);
+                }
+            }
+            House.fault("data A " + String.join(" ", names) + "=B\nmain=1", 8, 0);
+        }
     }
 
     /** "First the text"; "Then the names", whatever their lines. */

@@ -18,6 +18,7 @@ public final class NeedEdgesTest {
         constructors();
         greatest();
         mostNames();
+        mostNamesOfBranches();
         places();
         House.end();
     }
@@ -265,6 +266,19 @@ public final class NeedEdgesTest {
         House.due("most", "count(2)", house.it.count(2), 299);
         for (int k = 0; k < 33; k++) {
             House.due("most", "strict(" + k + ")", house.stricts(k + 1), k % 2 == 0 ? "10000001" : "00011000");
+        }
+    }
+
+    /** So it is with branches, PATTERNS and lets: each of 42 DEFINITIONS has 7 names, 294 in all, and main. */
+    private static void mostNamesOfBranches() {
+        StringBuilder text = new StringBuilder("main=1\n");
+        for (int k = 10; k < 52; k++) {
+            text.append("d").append(k).append(" a b c d=case a of e->if e==1 then b+c else let f=b in f+d\n");
+        }
+        House house = House.of(text.toString());
+        House.due("branches", "count(2)", house.it.count(2), 295);
+        for (int k = 0; k < 42; k++) {
+            House.due("branches", "strict(" + k + ")", house.stricts(k + 1), "1100");
         }
     }
 

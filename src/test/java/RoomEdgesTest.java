@@ -12,6 +12,7 @@ public final class RoomEdgesTest {
         functionsWithArguments();
         lastArguments();
         whatIsHeld();
+        behindAnother();
         roomAtItsEnd();
         programsValues();
         deepOfEach();
@@ -27,6 +28,7 @@ public final class RoomEdgesTest {
         manyVariablesWait();
         manyVariablesFree();
         freeOfMostNames();
+        freeOfCases();
         House.end();
     }
 
@@ -40,10 +42,15 @@ public final class RoomEdgesTest {
 
     /** How a run ends that makes something while it holds so many CELLS. */
     private static int endOf(String head, String made, int held) {
-        return House.ran("data K a = K a\n" + head + "rep n xs = if n == 0 then xs else rep (n - 1) (0 : xs)\n"
+        return House.ran(holding(head, made, held)).it.count(5);
+    }
+
+    /** Its text. */
+    private static String holding(String head, String made, int held) {
+        return "data K a = K a\n" + head + "rep n xs = if n == 0 then xs else rep (n - 1) (0 : xs)\n"
                 + "keep xs k = case " + made + " of _ -> case xs of x : _ -> case k of _ -> x\n"
                 + "go xs = case xs of _ : _ -> keep xs (" + fill(held - LIST) + ")\n"
-                + "main = go (rep 1320 [])\n").it.count(5);
+                + "main = go (rep 1320 [])\n";
     }
 
     /** "more than 4,000, it ENDS as ROOM": what is made has so many CELLS. */
@@ -74,6 +81,8 @@ public final class RoomEdgesTest {
     private static void functions() {
         cells("", "[\\a -> a]", 3 + 1);
         cells("", "[\\a -> xs]", 3 + 2);
+        cells("", "case [\\a -> a] of f : _ -> f 5", 3 + 1);
+        cells("", "case [\\a -> xs] of f : _ -> f 5", 3 + 2);
         cells("", "[\\a -> (xs, (k, xs))]", 3 + 3);
         cells("", "(\\a -> xs, \\b -> k)", 3 + 2 + 2);
         cells("", "[\\a -> rep]", 3 + 1);
@@ -117,6 +126,9 @@ public final class RoomEdgesTest {
         cells("x = 1 + 1\n", "let a = x in [a]", 2 + 3);
         cells("", "let a = xs in [a]", 3 + 3);
         cells("", "let a = b; b = a in [a]", 3 + 3 + 3);
+        cells("x = 1 + 1\n", "let a = x in 1", 2);
+        cells("", "let a = xs in 1", 3);
+        cells("", "let a = xs; b = a; c = 5; d = c in 1", 3 + 3 + 3);
         cells("", "let a = 1; b = True; c = [] in [a, 1]", 6);
     }
 
@@ -174,6 +186,29 @@ public final class RoomEdgesTest {
         cells("i a = case [1] of _ -> 1\n", "let t = i xs in t", 3 + 3);
         cells("", "say (case [1] of _ -> 1) [2, 3]", 6 + 2 + 3);
         cells("", "say 1 [2, 3]", 6);
+    }
+
+    /** What an object has read before does not count. */
+    private static void behindAnother() {
+        StringBuilder before = new StringBuilder("main=1\n");
+        for (int k = 10; k < 28; k++) {
+            before.append("d").append(k).append("=").append("[".repeat(38)).append("1").append("]".repeat(38)).append("\n");
+        }
+        String[] made = {"[1 + 1, 2]", "let a = 1 + 1; b = a in 1", "i (1 + 1) [2 + 2]", "let f a = (a, xs) in 1"};
+        int[] cells = {6 + 2, 2 + 3, 2 + 3 + 2, 2};
+        for (int k = 0; k < made.length; k++) {
+            for (int all = 4000; all <= 4001; all++) {
+                House house = new House().tape(before.toString());
+                House.due("before", "read()", house.it.read(), 0);
+                house.begin();
+                house.tape(holding("i a b = 1\n", made[k], all - cells[k])).it.read();
+                house.begin();
+                for (int n = 0; n < 20 && house.it.count(5) == 1; n++) {
+                    house.run(2000);
+                }
+                House.due(made[k], "behind another with " + all, house.it.count(5), all == 4000 ? 2 : 6);
+            }
+        }
     }
 
     /** A run that ENDS as ROOM: the STEP is counted, the THUNKS by which it ends are not. */
@@ -338,6 +373,8 @@ public final class RoomEdgesTest {
         there("f a = 5 + 6\nmain = f [1, 2]", 2, 6, 2);
         there("f a = \\b -> 5 + 6\nmain = f [1] [2, 3]", 3, 6, 2);
         there("f a = \\b -> 5 + 6\nmain = f [1] [2, 3]", 4, 0, 1);
+        there("main = case say 1 [1, 2] of _ -> 5 + 6", 5, 6, 2);
+        there("main = case say 1 [1, 2] of _ -> 5 + 6", 6, 0, 1);
         there("main = say 1 ((\\a -> 5 + 6) [1])", 4, 2, 1);
         there("main = say 1 ((\\a -> 5 + 6) [1])", 5, 2, 2);
         there("main = say 1 ((\\a -> 5 + 6) [1])", 6, 5, 3);
@@ -393,6 +430,26 @@ public final class RoomEdgesTest {
             house.run(2000);
             House.due("d" + k, "text", house.text(), "[7]");
         }
+        // With PATTERNS, lets and \, whose own NAMES are not FREE in what is around: 49 DEFINITIONS of 6 names.
+        StringBuilder other = new StringBuilder("main=d# 1 2\n");
+        for (int k = 10; k < 59; k++) {
+            other.append("d").append(k).append(" a b=[case a of t->let u=t in(\\v->v+u+b)5]\n");
+        }
+        for (int k = 10; k < 59; k++) {
+            House house = House.begun(other.toString().replace("#", "" + k));
+            house.run(4);
+            House.due("d" + k, "count(9) of a case", house.it.count(9), 3 + 4);
+            house.run(2000);
+            House.due("d" + k, "text of a case", house.text(), "[8]");
+        }
+    }
+
+    /** What stands FREE in one case is nothing to another. */
+    private static void freeOfCases() {
+        String f = "f a b = case 1 of 1 -> a; _ -> b\ng c = [case 1 of 1 -> c; _ -> 5]\nh d = [case 1 of _ -> 5]\n";
+        there(f + "main = g 1", 4, 3 + 3, 1);
+        there(f + "main = h 1", 4, 3 + 2, 1);
+        there(f + "main = [f 1 2]", 0, 3 + 2, 0);
     }
 
     private static void there(String text, int steps, int cells, int waits) {

@@ -364,6 +364,10 @@ public final class TypeEdgesTest {
             House.fault(i + "f x = [x,\n " + tower.replace("@", "x") + "]\nmain = 1", 7, 3);
             House.fault(i + "f x = [" + tower.replace("@", "x") + ",\n x]\nmain = 1", 7, 3);
         }
+        // What is told twice each time is gone through once: what is behind it is looked at, too.
+        String doubled = times(30, "i (") + "1" + times(30, ")");
+        House.fine(twice + "main = case [(" + doubled + ", 1), (" + doubled + ", 2)] of _ -> 1");
+        House.fault(twice + "main = case [(" + doubled + ", 1),\n (" + doubled + ", True)] of _ -> 1", 7, 3);
         // Many COPIES of one great type.
         String d = "d = (\\x -> x, " + times(11, "([], ") + "1" + times(11, ")") + ")\n";
         String row = "[d, d, d, d, d, d, d, d, d, d, d, d]";
