@@ -85,6 +85,12 @@ public final class LimitEdgesTest {
             }
             House.due(row[1], "count(2)", House.of(most + row[1]).it.count(2), 300);
         }
+        // All of them may be DEFINITIONS, each a GROUP by itself.
+        String lets = numbered(10, 59, "d#=1\n") + "main=let " + numbered(100, 240, "x#=1;") + "in ";
+        House house = House.ran(lets + "x339+x100");
+        House.due("DEFINITIONS", "count(2)", house.it.count(2), 300);
+        House.due("DEFINITIONS", "text", house.text(), "2");
+        limit(lets + "let y=1in y", false);
         // No _ counts, nor do NAMES of DATA.
         House.due("_", "count(2)", House.of(most + data + "main=case(1,2)of(_,_)->case[1]of _:_->case 1of _->"
                 + "case D 1 2 3of D _ _ _->(\\a b->1)1 2").it.count(2), 300);
