@@ -469,6 +469,11 @@ public final class RoomEdgesTest {
         there("main = [1]", 3, 0, 0);
         there("a = [1]\nb = (2, 3)\nmain = 1", 0, 6, 0);
         there("a = [1]\nb = (2, 3)\nmain = 1", 1, 0, 0);
+        // FUNCTIONS of the PROGRAM have none, say and constructors neither; one of \\ has 1, a THUNK of the PROGRAM none.
+        there("f x = x\nmain = 1", 0, 0, 0);
+        there("f = \\x -> x\nmain = 1", 0, 1, 0);
+        there("f = \\x y -> x\ng x = \\y -> x\nmain = 1", 0, 1, 0);
+        there("data P = P Int Int\nf = P\ng = say\nh = P 1\nmain = 1", 0, 0, 0);
         // A THUNK: 2 and what is FREE, while it is HELD, too; then what it is.
         there("main = let x = 1 + 1 in x + x", 2, 2, 1);
         there("main = let x = 1 + 1 in x + x", 4, 2, 3);
