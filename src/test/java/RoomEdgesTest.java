@@ -469,7 +469,7 @@ public final class RoomEdgesTest {
         there("main = [1]", 3, 0, 0);
         there("a = [1]\nb = (2, 3)\nmain = 1", 0, 6, 0);
         there("a = [1]\nb = (2, 3)\nmain = 1", 1, 0, 0);
-        // FUNCTIONS of the PROGRAM have none, say and constructors neither; one of \\ has 1, a THUNK of the PROGRAM none.
+        // FUNCTIONS of the PROGRAM have none, say and constructors neither; one of \ has 1, a THUNK of the PROGRAM none.
         there("f x = x\nmain = 1", 0, 0, 0);
         there("f = \\x -> x\nmain = 1", 0, 1, 0);
         there("f = \\x y -> x\ng x = \\y -> x\nmain = 1", 0, 1, 0);

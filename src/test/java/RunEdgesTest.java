@@ -204,6 +204,14 @@ public final class RunEdgesTest {
             House.due("4 STEPS", "count(6) behind " + n, house.it.count(6), Math.min(n, 4));
             House.due("4 STEPS", "text behind " + n, house.text(), n < 4 ? "" : "3");
         }
+        // Each sign with its two operands is an E of its own: main, the signs, and what they stand between.
+        House.ends("main = 1 + 2 + 3", 2, 1 + 2 + 3);
+        House.ends("main = 8 - 2 * 3 - 1", 2, 1 + 3 + 4);
+        House.ends("main = 1 * 2 / 3 % 4 == 5 + 6 + 7", 2, 1 + 6 + 7);
+        House.ends("main = False || False || True", 2, 1 + 2 + 3);
+        House.ends("main = True && True && False", 2, 1 + 2 + 3);
+        House.ends("main = True || False || False", 2, 1 + 1 + 1);
+        House.ends("main = (False || True) || False", 2, 1 + 2 + 2);
         // What follows from a STEP belongs to it, up to the next one: the end, too.
         House list = House.begun("main = []");
         House.due("list", "run(1)", list.it.run(1), 1);
